@@ -1,0 +1,56 @@
+import java.util.NoSuchElementException;
+import java.util.function.Consumer;
+import java.util.function.Supplier;
+
+/** Compares answers with those that are due, prints the ones that are not, and counts them. */
+final class Check {
+    static final Class<?> BOUNDS = IndexOutOfBoundsException.class;
+    static final Class<?> ARGUMENT = IllegalArgumentException.class;
+    static final Class<?> STATE = IllegalStateException.class;
+    static final Class<?> ELEMENT = NoSuchElementException.class;
+    static final Class<?> UNSUPPORTED = UnsupportedOperationException.class;
+    static final Class<?> ARITHMETIC = ArithmeticException.class;
+
+    private final String test;
+    private int asked;
+    private int wrong;
+
+    Check(String test) {
+        this.test = test;
+    }
+
+    void due(String call, Object got, Object want) {
+        asked++;
+        if (!got.equals(want)) {
+            wrong++;
+            System.out.println(test + ": " + call + " answered " + got + ", due is " + want);
+        }
+    }
+
+    /** The call throws just this kind of exception, and the house is then as one that was not asked. */
+    void refused(String call, Class<?> kind, Supplier<Placecard> build, Consumer<Placecard> run) {
+        Placecard house = build.get();
+        due(call, outcomeOf(() -> run.accept(house)), kind.getName());
+        due("the house after " + call, House.used(house), House.used(build.get()));
+    }
+
+    void refused(String call, Class<?> kind, Runnable run) {
+        due(call, outcomeOf(run), kind.getName());
+    }
+
+    private static String outcomeOf(Runnable run) {
+        try {
+            run.run();
+            return "nothing thrown";
+        } catch (RuntimeException e) {
+            return e.getClass().getName();
+        }
+    }
+
+    void end() {
+        System.out.println(test + ": " + asked + " answers looked at, " + wrong + " wrong");
+        if (wrong != 0) {
+            System.exit(1);
+        }
+    }
+}
