@@ -43,8 +43,15 @@ final class Check {
             run.run();
             return "nothing thrown";
         } catch (RuntimeException e) {
-            return e.getClass().getName();
+            return e.getClass().getName() + whoElseThrew(e);
         }
+    }
+
+    /** Nothing, if the program's own throw threw it; else a text that says so, since the machine must never throw. */
+    static String whoElseThrew(RuntimeException e) {
+        StackTraceElement[] trace = e.getStackTrace();
+        boolean isOwn = trace.length > 0 && trace[0].getClassName().equals("Placecard") && e.getMessage() != null;
+        return isOwn ? "" : " thrown by the machine in " + (trace.length > 0 ? trace[0] : "a hidden place");
     }
 
     void end() {

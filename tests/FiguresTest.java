@@ -82,6 +82,8 @@ public final class FiguresTest {
         check.due("meanRank(0) of two", house.meanRank(0), 49.5);
         house.sit(3, 0, 1);
         check.due("meanRank(0) of three", house.meanRank(0), 100.0 / 3.0);
+        house.swap(0, 1);
+        check.due("meanRank(0), the greatest on the seat 0", house.meanRank(0), 100.0 / 3.0);
         house.sit(2, 1, 1);
         check.due("meanRank(1)", house.meanRank(1), 50.0);
         house.rise(2);

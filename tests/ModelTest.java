@@ -6,6 +6,8 @@ import java.util.function.Supplier;
 public final class ModelTest {
     private static final int RUNS = 600;
     private static final int CALLS = 480;
+    private static final int QUARREL_RUNS = 240;
+    private static final String[] QUARREL_KINDS = {"nnnnnna", "nsss", "ntsnaa", "bnaosse"};
 
     private final Check check;
     private final int run;
@@ -27,6 +29,9 @@ public final class ModelTest {
         Check check = new Check("ModelTest");
         for (int run = 0; run < RUNS; run++) {
             new ModelTest(check, run).go();
+        }
+        for (int run = 0; run < QUARREL_RUNS; run++) {
+            new ModelTest(check, run).quarrels();
         }
         check.end();
     }
@@ -52,14 +57,14 @@ public final class ModelTest {
 
     private void compare(String call, Supplier<Object> got, Supplier<Object> want) {
         calls++;
-        check.due("run " + run + ", call " + calls + " " + call, outcomeOf(got), outcomeOf(want));
+        check.due("run " + run + ", call " + calls + " " + call, outcomeOf(got, true), outcomeOf(want, false));
     }
 
-    private static String outcomeOf(Supplier<Object> answer) {
+    private static String outcomeOf(Supplier<Object> answer, boolean isOfHouse) {
         try {
             return String.valueOf(answer.get());
         } catch (RuntimeException e) {
-            return "throws." + e.getClass().getSimpleName();
+            return "throws." + e.getClass().getSimpleName() + (isOfHouse ? Check.whoElseThrew(e) : "");
         }
     }
 
@@ -161,6 +166,34 @@ public final class ModelTest {
     private Object keepCondition(int condition) {
         conditions = condition + 1;
         return condition;
+    }
+
+    /** Six guests and sixteen hard conditions, of kinds that quarrel only as many come together. */
+    private void quarrels() {
+        char kind = oneOf("rhl");
+        house.addTable(kind, kind == 'l' ? 6 : 6 + run % 4);
+        slow.addTable(kind, kind == 'l' ? 6 : 6 + run % 4);
+        for (int i = 0; i < 6; i++) {
+            int guest = i;
+            int tongues = 1 << pick(0, 4);
+            char ear = oneOf("blr");
+            compare("addGuest", () -> house.addGuest(1, 1, 1, tongues, ear), () -> slow.addGuest(1, 1, 1, tongues, ear));
+            compare("reply", () -> house.reply(guest, true), () -> slow.reply(guest, true));
+            compare("sit", () -> house.sit(guest, 0, guest), () -> slow.sit(guest, 0, guest));
+        }
+        for (int i = 0; i < 16; i++) {
+            char told = oneOf(QUARREL_KINDS[run % QUARREL_KINDS.length]);
+            int guest = pick(0, 5);
+            int other = (guest + pick(1, 5)) % 6;
+            compare("addCondition(" + told + ", " + guest + ", " + other + ")",
+                    () -> house.addCondition(told, guest, other, 0), () -> slow.addCondition(told, guest, other, 0));
+        }
+        compare("quarrel(0)", () -> house.quarrel(0), () -> slow.quarrel(0));
+        List<Integer> least = slow.leastQuarrel(0);
+        for (int i = 0; i < least.size(); i++) {
+            int index = i;
+            compare("quarrelAt(0, " + index + ")", () -> house.quarrelAt(0, index), () -> least.get(index));
+        }
     }
 
     private void anyCall() {

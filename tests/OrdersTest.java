@@ -16,6 +16,7 @@ public final class OrdersTest {
         quarrel();
         quarrelIsFirstOfLike();
         moves();
+        onlyTheLastOrder();
         crowded();
         noSuchTable();
         emptyTable();
@@ -192,6 +193,11 @@ public final class OrdersTest {
         check.due("isNeeded(0, 1), spoilt by another", house.isNeeded(0, 1), false);
         check.due("answers(0) stays", house.answers(0), 0);
 
+        Placecard three = House.seated('r', 2, 1, 0);
+        three.addCondition('t', 0, 1, 0);
+        check.due("isNeeded(0, 0), no order breaks it", three.isNeeded(0, 0), false);
+        check.due("isNeeded(0, 0) for just one answer more", oneAnswerMore().isNeeded(0, 0), true);
+
         Placecard ears = House.full();
         check.due("isNeeded(1, 0), of another table", ears.isNeeded(1, 0), false);
         check.due("isNeeded(0, 0), cards aside", ears.isNeeded(0, 0), true);
@@ -199,6 +205,19 @@ public final class OrdersTest {
         check.refused("isNeeded(-1, 0)", Check.BOUNDS, House::full, x -> x.isNeeded(-1, 0));
         check.refused("isNeeded(0, 5)", Check.BOUNDS, House::full, x -> x.isNeeded(0, 5));
         check.refused("isNeeded(0, -1)", Check.BOUNDS, House::full, x -> x.isNeeded(0, -1));
+    }
+
+    /** Two at a row; the first one hears the other by the right ear alone, and so sits on the first seat. */
+    private static Placecard oneAnswerMore() {
+        Placecard house = House.withTables("h2");
+        house.addGuest(1, 1, 0, 1, 'r');
+        house.addGuest(1, 1, 0, 1, 'b');
+        house.reply(0, true);
+        house.reply(1, true);
+        house.sit(0, 0, 1);
+        house.sit(1, 0, 0);
+        house.addCondition('e', 0, 1, 0);
+        return house;
     }
 
     private static void dueQuarrel(String call, Placecard house, int... want) {
@@ -274,6 +293,15 @@ public final class OrdersTest {
         house.ink(0);
         check.refused("moves(0), 0 and 1 in ink", Check.ELEMENT, () -> house.moves(0));
 
+        Placecard seven = House.seated('h', 0, 1, 2, 3, 4, 5, 6);
+        int[] path = {1, 0, 3, 2, 5, 6, 4};
+        for (int i = 1; i < path.length; i++) {
+            seven.addCondition('b', path[i - 1], path[i], 0);
+        }
+        check.due("moves(0), all of seven", seven.moves(0), 7);
+        check.due("arrange(0), all of seven", seven.arrange(0), 7);
+        check.due("moves(0), arranged", seven.moves(0), 0);
+
         Supplier<Placecard> held = () -> {
             Placecard row = House.seated('h', 0, 1, 2);
             row.addCondition('b', 0, 2, 0);
@@ -294,6 +322,35 @@ public final class OrdersTest {
         Placecard dropped = elsewhere.get();
         dropped.drop(0, true);
         check.due("moves(1), it dropped", dropped.moves(1), 0);
+    }
+
+    /** Guests in a row, each of whom hears the one before by the right ear alone: only the falling order will do. */
+    private static Placecard falling(int count) {
+        Placecard house = House.withTables("h" + count);
+        for (int i = 0; i < count; i++) {
+            house.addGuest(1, 1, 0, 1, 'r');
+            house.reply(i, true);
+            house.sit(i, 0, i);
+        }
+        for (int i = 1; i < count; i++) {
+            house.addCondition('e', i, i - 1, 0);
+        }
+        return house;
+    }
+
+    private static void onlyTheLastOrder() {
+        Placecard seven = falling(7);
+        check.due("bestBroken(0), the last order", seven.bestBroken(0), 0);
+        check.due("bestAt(0, ..), the last order", bestRow(seven, 0, 7), "6 5 4 3 2 1 0");
+        check.due("answers(0), the last order", seven.answers(0), 1);
+        check.due("moves(0), the last order", seven.moves(0), 6);
+        check.due("arrange(0), the last order", seven.arrange(0), 6);
+        Placecard six = falling(6);
+        dueQuarrel("only the last order keeps all", six);
+        six.addCondition('n', 0, 1, 0);
+        dueQuarrel("not even the last order", six, 0, 5);
+        six.drop(0, true);
+        dueQuarrel("the last order and others", six);
     }
 
     private static void crowded() {

@@ -469,7 +469,7 @@ final class SlowHouse {
         return answersBy(table, fewer) > answersBy(table, clues(table));
     }
 
-    private List<Integer> leastQuarrel(int table) {
+    List<Integer> leastQuarrel(int table) {
         inList(tables, table);
         notAbove(table, 6);
         List<Integer> clues = new ArrayList<>(clues(table));

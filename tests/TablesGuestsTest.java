@@ -184,6 +184,10 @@ public final class TablesGuestsTest {
         check.due("waiting(1)", house.waiting(1), 4);
         check.due("reply(3, true)", house.reply(3, true), 'w');
         check.due("waiting(2), behind the others", house.waiting(2), 3);
+        check.due("reply(3, false), the last one", house.reply(3, false), 'n');
+        check.refused("waiting(2), the last one gone", Check.ELEMENT, () -> house.waiting(2));
+        check.due("reply(2, false), the first one", house.reply(2, false), 'n');
+        check.due("waiting(0), the first one gone", house.waiting(0), 4);
     }
 
     private static void waitingGuests() {

@@ -919,14 +919,18 @@ public final class Placecard {
             leastLoss = Integer.MAX_VALUE;
             boolean isMore = true;
             for (int n = 0; isMore && n < MOST_ORDERS; n++) {
-                int all = outerBroken | innerBroken(table);
-                keepIfBetter(Integer.bitCount(all & hard), conditions.weightOf(all));
+                keepIfBetter(outerBroken | innerBroken(table));
                 isMore = advance();
             }
         }
 
-        private void keepIfBetter(int breaches, int weight) {
-            if (breaches < leastBroken || breaches == leastBroken && weight < leastLoss) {
+        private void keepIfBetter(int allBroken) {
+            int breaches = Integer.bitCount(allBroken & hard);
+            if (breaches > leastBroken) {
+                return;
+            }
+            int weight = conditions.weightOf(allBroken);
+            if (breaches < leastBroken || weight < leastLoss) {
                 leastBroken = breaches;
                 leastLoss = weight;
                 System.arraycopy(movers, 0, best, 0, count);
