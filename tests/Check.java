@@ -11,6 +11,8 @@ final class Check {
     static final Class<?> UNSUPPORTED = UnsupportedOperationException.class;
     static final Class<?> ARITHMETIC = ArithmeticException.class;
 
+    private static final String NOTHING = "nothing thrown";
+
     private final String test;
     private int asked;
     private int wrong;
@@ -27,11 +29,19 @@ final class Check {
         }
     }
 
-    /** The call throws just this kind of exception, and the house is then as one that was not asked. */
+    /** The call throws just this kind of exception, and the house then answers everything as one that was not asked. */
     void refused(String call, Class<?> kind, Supplier<Placecard> build, Consumer<Placecard> run) {
+        for (int part = 0; part < Probe.PARTS; part++) {
+            Placecard house = build.get();
+            due(call, outcomeOf(() -> run.accept(house)), kind.getName());
+            due("the house after " + call, Probe.part(part, house), Probe.part(part, build.get()));
+        }
+    }
+
+    /** The call throws nothing. */
+    void accepted(String call, Supplier<Placecard> build, Consumer<Placecard> run) {
         Placecard house = build.get();
-        due(call, outcomeOf(() -> run.accept(house)), kind.getName());
-        due("the house after " + call, House.used(house), House.used(build.get()));
+        due(call, outcomeOf(() -> run.accept(house)), NOTHING);
     }
 
     void refused(String call, Class<?> kind, Runnable run) {
@@ -41,7 +51,7 @@ final class Check {
     private static String outcomeOf(Runnable run) {
         try {
             run.run();
-            return "nothing thrown";
+            return NOTHING;
         } catch (RuntimeException e) {
             return e.getClass().getName() + whoElseThrew(e);
         }

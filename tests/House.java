@@ -1,6 +1,4 @@
-import java.util.function.Supplier;
-
-/** Houses that the tests begin with, and a text of all that can be asked of one. */
+/** Houses that the tests begin with. */
 final class House {
     private House() {
     }
@@ -64,48 +62,5 @@ final class House {
         house.lock();
         house.keepEvening();
         return house;
-    }
-
-    /** All that can be asked of a house, and what changes of it answer; it is used up by that. */
-    static String used(Placecard house) {
-        StringBuilder text = new StringBuilder();
-        int tables = 0;
-        for (int table = 0; table < 6; table++) {
-            int now = table;
-            if (add(text, () -> "" + house.faults(now, 2))) {
-                tables++;
-            }
-            for (int seat = 0; seat < 10; seat++) {
-                int place = seat;
-                add(text, () -> "" + house.at(now, place));
-            }
-        }
-        text.append(" tables ").append(tables).append(" coming ").append(house.coming());
-        for (int i = 0; i < 16; i++) {
-            int now = i;
-            add(text, () -> "" + house.stateOf(now) + house.met(now, (now + 1) % 15));
-            add(text, () -> "" + house.waiting(now));
-            add(text, () -> "" + house.isBroken(now));
-            add(text, () -> "" + house.drop(now, false));
-            add(text, () -> "ink " + house.tear(now));
-        }
-        text.append(" without ").append(house.without()).append(" unmet ").append(house.unmet());
-        text.append(" hard ").append(house.broken()).append(" sum ").append(house.checksum());
-        add(text, () -> "guest " + house.addGuest(1, 1, 1, 1, 'b'));
-        add(text, () -> "condition " + house.addCondition('t', 0, 1, 1));
-        add(text, () -> "evening " + house.keepEvening());
-        add(text, () -> "table " + house.addTable('r', 9));
-        text.append(" lock ").append(house.lock()).append(' ').append(house.checksum());
-        return text.toString();
-    }
-
-    private static boolean add(StringBuilder text, Supplier<String> answer) {
-        try {
-            text.append(' ').append(answer.get());
-            return true;
-        } catch (RuntimeException e) {
-            text.append(" -");
-            return false;
-        }
     }
 }
