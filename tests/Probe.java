@@ -98,8 +98,11 @@ final class Probe {
         for (int i = 0; i < 16; i++) {
             int number = i;
             ask("rise", () -> house.rise(number));
-            ask("drop", () -> house.drop(number, false));
+        }
+        for (int i = 0; i < 16; i++) {
+            int number = i;
             ask("tear", () -> house.tear(number));
+            ask("drop", () -> house.drop(number, false));
         }
         ask("broken", house::broken);
         ask("loss", house::loss);
