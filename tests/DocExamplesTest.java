@@ -1,8 +1,28 @@
-/** The document's own examples. */
-public final class DocExamplesTest {
-    public static void main(String[] args) {
-        Check check = new Check("DocExamplesTest");
+import java.util.List;
 
+/** The document's own examples: each row as it stands in the document, and once more as a program calls them. */
+public final class DocExamplesTest {
+    private static final Check check = new Check("DocExamplesTest");
+
+    public static void main(String[] args) {
+        asTheyStand();
+        asCalled();
+        check.end();
+    }
+
+    private static void asTheyStand() {
+        List<String> examples = Document.examples();
+        int[] rows = {5, 10, 10};
+        check.due("how many examples the document has", examples.size(), rows.length);
+        for (int i = 0; i < examples.size(); i++) {
+            String text = examples.get(i);
+            check.due("example " + (i + 1) + " ends with a stop", text.endsWith("."), true);
+            int count = Rows.run(check, "example " + (i + 1), text.substring(0, text.length() - 1));
+            check.due("how many rows example " + (i + 1) + " has", count, i < rows.length ? rows[i] : 0);
+        }
+    }
+
+    private static void asCalled() {
         Placecard ways = new Placecard();
         check.due("addTable('r', 4)", ways.addTable('r', 4), 0);
         check.due("way(0, 0, 3)", ways.way(0, 0, 3), 1);
@@ -33,7 +53,5 @@ public final class DocExamplesTest {
         check.due("addCondition('e', 0, 1, 0)", ears.addCondition('e', 0, 1, 0), 0);
         check.due("isBroken(0)", ears.isBroken(0), true);
         check.due("answers(0)", ears.answers(0), 1);
-
-        check.end();
     }
 }

@@ -7,10 +7,13 @@ import com.sun.source.util.Trees;
 import java.io.File;
 import java.io.IOException;
 import java.nio.file.Files;
+import java.util.HashMap;
+import java.util.HashSet;
 import java.util.List;
 import java.util.Map;
 import java.util.Set;
 import javax.lang.model.element.Element;
+import javax.lang.model.element.ElementKind;
 import javax.lang.model.element.Modifier;
 import javax.tools.JavaCompiler;
 import javax.tools.StandardJavaFileManager;
@@ -31,6 +34,8 @@ public final class LanguageTest {
             Tree.Kind.TRY, Tree.Kind.SYNCHRONIZED, Tree.Kind.ASSERT, Tree.Kind.SWITCH_EXPRESSION,
             Tree.Kind.ANNOTATION, Tree.Kind.DIVIDE, Tree.Kind.REMAINDER, Tree.Kind.TYPE_CAST);
 
+    private static final int MOST_DEPTH = 8;
+
     private static final Check check = new Check("LanguageTest");
 
     public static void main(String[] args) throws IOException {
@@ -48,14 +53,32 @@ public final class LanguageTest {
             task.analyze();
             check.due("a package line", unit.getPackageName() == null, true);
             check.due("classes on the top", unit.getTypeDecls().size(), 1);
-            new Scanner(unit, Trees.instance(task)).scan(unit, null);
+            Scanner scanner = new Scanner(unit, Trees.instance(task));
+            scanner.scan(unit, null);
+            for (Element method : scanner.calls.keySet()) {
+                check.due("rule 11: calls below " + method + " go at most eight deep",
+                        depthOf(scanner.calls, method, 1) <= MOST_DEPTH, true);
+            }
         }
         check.end();
+    }
+
+    /** How deep calls go, a method that calls itself aside; those that called one another would go beyond all bounds. */
+    private static int depthOf(Map<Element, Set<Element>> calls, Element method, int depth) {
+        int most = depth;
+        for (Element callee : calls.getOrDefault(method, Set.of())) {
+            if (callee != method && depth <= MOST_DEPTH) {
+                most = Math.max(most, depthOf(calls, callee, depth + 1));
+            }
+        }
+        return most;
     }
 
     private static final class Scanner extends TreePathScanner<Void, Void> {
         private final CompilationUnitTree unit;
         private final Trees trees;
+        final Map<Element, Set<Element>> calls = new HashMap<>();
+        private Element method;
         private int classes;
 
         Scanner(CompilationUnitTree unit, Trees trees) {
@@ -119,6 +142,8 @@ public final class LanguageTest {
                 ruled(tree, "rule 11: " + tree.getName() + " has at most sixty lines", lines <= 60);
             }
             ruled(tree, "rule 11: " + tree.getName() + " takes at most seven", tree.getParameters().size() <= 7);
+            method = trees.getElement(getCurrentPath());
+            calls.put(method, new HashSet<>());
             return super.visitMethod(tree, nothing);
         }
 
@@ -160,12 +185,25 @@ public final class LanguageTest {
         }
 
         private void called(Tree tree) {
-            Element method = trees.getElement(getCurrentPath());
-            String owner = method.getEnclosingElement().toString();
+            Element called = trees.getElement(getCurrentPath());
+            String owner = called.getEnclosingElement().toString();
             if (!owner.startsWith("Placecard")) {
-                String name = method.getSimpleName().toString();
+                String name = called.getSimpleName().toString();
                 ruled(tree, "rule 4: " + owner + "." + name, LIBRARY.getOrDefault(owner, Set.of()).contains(name));
+            } else if (method != null) {
+                calls.get(method).add(called);
             }
+        }
+
+        @Override
+        public Void visitMemberSelect(MemberSelectTree tree, Void nothing) {
+            Element selected = trees.getElement(getCurrentPath());
+            if (selected != null && selected.getKind() == ElementKind.FIELD) {
+                String owner = selected.getEnclosingElement().toString();
+                boolean isLength = selected.getSimpleName().contentEquals("length") && owner.equals("Array");
+                ruled(tree, "rule 4: no constant of the library, " + tree, isLength || owner.startsWith("Placecard"));
+            }
+            return super.visitMemberSelect(tree, nothing);
         }
 
         @Override

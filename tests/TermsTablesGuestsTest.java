@@ -1,32 +1,11 @@
-import java.util.Arrays;
-import java.util.List;
-
 /** "Terms": the sentences on tables and guests that name a boundary case, each by a test of its own. */
 public final class TermsTablesGuestsTest {
     private static final Check check = new Check("TermsTablesGuestsTest");
 
-    // Each table, what seats are next to each other, what are opposite, and each seat before its right hand.
-    private static final String[][] TABLES = {
-        {"r2", "01", "", "01"},
-        {"r3", "01 12 02", "", "01 12 20"},
-        {"r4", "01 12 23 03", "", "01 12 23 30"},
-        {"r5", "01 12 23 34 04", "", "01 12 23 34 40"},
-        {"r10", "01 12 23 34 45 56 67 78 89 09", "", "01 12 23 34 45 56 67 78 89 90"},
-        {"h2", "01", "", "01"},
-        {"h3", "01 12", "", "01 12"},
-        {"h4", "01 12 23", "", "01 12 23"},
-        {"h10", "01 12 23 34 45 56 67 78 89", "", "01 12 23 34 45 56 67 78 89"},
-        {"l2", "", "01", ""},
-        {"l4", "01 23", "02 13", "01 23"},
-        {"l6", "01 12 34 45", "03 14 25", "01 12 34 45"},
-        {"l8", "01 12 23 45 56 67", "04 15 26 37", "01 12 23 45 56 67"},
-        {"l10", "01 12 23 34 56 67 78 89", "05 16 27 38 49", "01 12 23 34 56 67 78 89"},
-    };
-
     public static void main(String[] args) {
         atMostSixTables();
         seatsAreNumberedFrom0();
-        for (String[] table : TABLES) {
+        for (String[] table : Shapes.ALL) {
             nextToEachOther(table);
             oppositeSeats(table);
             wayIsLeastSteps(table);
@@ -53,18 +32,6 @@ public final class TermsTablesGuestsTest {
         check.end();
     }
 
-    private static boolean has(String pairs, int seat, int other) {
-        return List.of(pairs.split(" ")).contains("" + seat + other);
-    }
-
-    private static boolean hasEither(String pairs, int seat, int other) {
-        return has(pairs, seat, other) || has(pairs, other, seat);
-    }
-
-    private static int seatsOf(String[] table) {
-        return Integer.parseInt(table[0].substring(1));
-    }
-
     /** Whether a condition of a kind is broken for a guest with an ear on a seat and one on another seat. */
     private static boolean isBroken(String[] table, char kind, char ear, int seat, int other) {
         Placecard house = House.withTables(table[0]);
@@ -80,29 +47,21 @@ public final class TermsTablesGuestsTest {
 
     /** Looks at a kind for all pairs of seats: the condition must be kept where the pair is in the text. */
     private static void duePairs(String sentence, String[] table, char kind, char ear, String kept) {
-        for (int seat = 0; seat < seatsOf(table); seat++) {
-            for (int other = 0; other < seatsOf(table); other++) {
+        for (int seat = 0; seat < Shapes.seatsOf(table); seat++) {
+            for (int other = 0; other < Shapes.seatsOf(table); other++) {
                 if (seat != other) {
                     check.due(sentence + ": " + table[0] + " '" + kind + "' by ear " + ear + " on " + seat + ", "
-                            + other, isBroken(table, kind, ear, seat, other), !has(kept, seat, other));
+                            + other, isBroken(table, kind, ear, seat, other), !Shapes.has(kept, seat, other));
                 }
             }
         }
     }
 
-    private static String bothWays(String pairs) {
-        return pairs + " " + reversed(pairs);
-    }
-
-    private static String reversed(String pairs) {
-        return new StringBuilder(pairs).reverse().toString();
-    }
-
     private static String allBut(String[] table, String pairs) {
         StringBuilder text = new StringBuilder();
-        for (int seat = 0; seat < seatsOf(table); seat++) {
-            for (int other = 0; other < seatsOf(table); other++) {
-                text.append(has(pairs, seat, other) ? "" : " " + seat + other);
+        for (int seat = 0; seat < Shapes.seatsOf(table); seat++) {
+            for (int other = 0; other < Shapes.seatsOf(table); other++) {
+                text.append(Shapes.has(pairs, seat, other) ? "" : " " + seat + other);
             }
         }
         return text.toString().trim();
@@ -120,11 +79,11 @@ public final class TermsTablesGuestsTest {
     }
 
     private static void seatsAreNumberedFrom0() {
-        for (String[] table : TABLES) {
+        for (String[] table : Shapes.ALL) {
             Placecard house = House.withTables(table[0]);
-            House.invite(house, seatsOf(table));
-            check.due("2 to 10 seats: coming() at " + table[0], house.coming(), seatsOf(table));
-            for (int seat = 0; seat < seatsOf(table); seat++) {
+            House.invite(house, Shapes.seatsOf(table));
+            check.due("2 to 10 seats: coming() at " + table[0], house.coming(), Shapes.seatsOf(table));
+            for (int seat = 0; seat < Shapes.seatsOf(table); seat++) {
                 check.due("seats numbered from 0: " + table[0], house.sit(seat, 0, seat), seat + 1);
                 check.due("seats numbered from 0: " + table[0], house.at(0, seat), seat);
             }
@@ -132,36 +91,18 @@ public final class TermsTablesGuestsTest {
     }
 
     private static void nextToEachOther(String[] table) {
-        duePairs("Next to each other", table, 'b', 'b', bothWays(table[1]));
-        duePairs("Next to each other", table, 'n', 'b', allBut(table, bothWays(table[1])));
+        duePairs("Next to each other", table, 'b', 'b', Shapes.bothWays(table[1]));
+        duePairs("Next to each other", table, 'n', 'b', allBut(table, Shapes.bothWays(table[1])));
     }
 
     private static void oppositeSeats(String[] table) {
-        duePairs("opposite to the one that is half of the seats later", table, 'o', 'b', bothWays(table[2]));
-    }
-
-    /** The steps from a seat to all others, going on from those that are reached. */
-    private static int[] stepsFrom(String[] table, int start) {
-        int[] steps = new int[seatsOf(table)];
-        Arrays.fill(steps, 99);
-        steps[start] = 0;
-        for (int round = 1; round < 10; round++) {
-            for (int seat = 0; seat < steps.length; seat++) {
-                for (int other = 0; other < steps.length; other++) {
-                    boolean isStep = hasEither(table[1], seat, other) || hasEither(table[2], seat, other);
-                    if (steps[seat] == round - 1 && isStep) {
-                        steps[other] = Math.min(steps[other], round);
-                    }
-                }
-            }
-        }
-        return steps;
+        duePairs("opposite to the one that is half of the seats later", table, 'o', 'b', Shapes.bothWays(table[2]));
     }
 
     private static void wayIsLeastSteps(String[] table) {
         Placecard house = House.withTables("l2 " + table[0] + " h2");
-        for (int seat = 0; seat < seatsOf(table); seat++) {
-            int[] steps = stepsFrom(table, seat);
+        for (int seat = 0; seat < Shapes.seatsOf(table); seat++) {
+            int[] steps = Shapes.stepsFrom(table, seat);
             for (int other = 0; other < steps.length; other++) {
                 check.due("the least number of steps: " + table[0] + " way(1, " + seat + ", " + other + ")",
                         house.way(1, seat, other), steps[other]);
@@ -171,8 +112,8 @@ public final class TermsTablesGuestsTest {
 
     private static void threeStepsApart(String[] table) {
         StringBuilder far = new StringBuilder();
-        for (int seat = 0; seat < seatsOf(table); seat++) {
-            int[] steps = stepsFrom(table, seat);
+        for (int seat = 0; seat < Shapes.seatsOf(table); seat++) {
+            int[] steps = Shapes.stepsFrom(table, seat);
             for (int other = 0; other < steps.length; other++) {
                 far.append(steps[other] >= 3 ? " " + seat + other : "");
             }
@@ -184,12 +125,12 @@ public final class TermsTablesGuestsTest {
 
     private static void hands(String[] table) {
         duePairs("A seat's right hand", table, 'e', 'r', table[3]);
-        duePairs("its left hand is the seat of which it is the right hand", table, 'e', 'l', reversed(table[3]));
-        duePairs("both hands", table, 'e', 'b', bothWays(table[3]));
+        duePairs("its left hand is the seat of which it is the right hand", table, 'e', 'l', Shapes.reversed(table[3]));
+        duePairs("both hands", table, 'e', 'b', Shapes.bothWays(table[3]));
     }
 
     private static void tonguesOfThoseNext(String[] table) {
-        duePairs("with a tongue in common if they are next", table, 's', 'b', allBut(table, bothWays(table[1])));
+        duePairs("with a tongue in common if they are next", table, 's', 'b', allBut(table, Shapes.bothWays(table[1])));
     }
 
     private static void atMostSixteenGuests() {

@@ -20,6 +20,8 @@ public final class Placecard {
     private static final int MOST_ORDERS = 5040;
     private static final int MOST_TO_QUARREL = 6;
     private static final int MOST_QUARREL_ORDERS = 720;
+    // Above each count and each loss that an order can have.
+    private static final int MORE_THAN_ANY = 1000;
 
     private static final char ROUND = 'r';
     private static final char ROW = 'h';
@@ -326,7 +328,7 @@ public final class Placecard {
         Table asked = tableBy(table);
         checkNotAbove(asked, MOST_TO_ORDER);
         int fewest = orders.fewestMoves(asked);
-        if (fewest > MOST_TO_ORDER) {
+        if (fewest == MORE_THAN_ANY) {
             throw new NoSuchElementException("no order keeps all hard conditions");
         }
         return fewest;
@@ -915,8 +917,8 @@ public final class Placecard {
 
         void findBest(Table table) {
             begin(table, true);
-            leastBroken = Integer.MAX_VALUE;
-            leastLoss = Integer.MAX_VALUE;
+            leastBroken = MORE_THAN_ANY;
+            leastLoss = MORE_THAN_ANY;
             boolean isMore = true;
             for (int n = 0; isMore && n < MOST_ORDERS; n++) {
                 keepIfBetter(outerBroken | innerBroken(table));
@@ -971,10 +973,10 @@ public final class Placecard {
             }
         }
 
-        /** The fewest moves, or more than any table's guests if no order will do. */
+        /** The fewest moves, or MORE_THAN_ANY if no order will do. */
         int fewestMoves(Table table) {
             begin(table, true);
-            int fewest = Integer.MAX_VALUE;
+            int fewest = MORE_THAN_ANY;
             boolean isMore = true;
             for (int n = 0; isMore && n < MOST_ORDERS; n++) {
                 if (((outerBroken | innerBroken(table)) & hard) == 0) {
