@@ -2,7 +2,7 @@ import java.util.ArrayList;
 import java.util.List;
 
 /**
- * "An object is used for at most 512 calls after it has been made": the fullest houses, with each call of the face among
+ * "An object is used for at most 512 calls after it has been made": the fullest houses, each call of the face among
  * the last ones and as the very last. What is due is told by the slow house; a round of calls leaves a house as it was.
  */
 public final class FullestHouseTest {

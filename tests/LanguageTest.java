@@ -63,7 +63,7 @@ public final class LanguageTest {
         check.end();
     }
 
-    /** How deep calls go, a method that calls itself aside; those that called one another would go beyond all bounds. */
+    /** How deep calls go, a method that calls itself aside; some that called one another would go beyond any bound. */
     private static int depthOf(Map<Element, Set<Element>> calls, Element method, int depth) {
         int most = depth;
         for (Element callee : calls.getOrDefault(method, Set.of())) {

@@ -280,7 +280,7 @@ public final class TermsOrdersTest {
         return house;
     }
 
-    /** No more than one condition of a pair of guests can be in a least quarrel, so that 15 of 6 guests are the most. */
+    /** A least quarrel of more than two has at most one condition of a pair of guests, so that 15 are the most. */
     private static void asManyAsPairs() {
         check.due("the fewest of all: one alone", quarrelOf(kept("012345", "abbbbb"), 0), "1 2 3 4 5");
         check.due("the fewest of all: two and four", quarrelOf(kept("012345", "aabbbb"), 0), "1 2 3 4 5 6 7 8");
